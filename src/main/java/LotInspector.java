@@ -339,9 +339,16 @@ public final class LotInspector {
             throw new IllegalArgumentException();
         }
         beginChange();
-        int done = carryOutAll();
+        commands.rewind();
+        int done = 0;
+        boolean isRefused = false;
+        while (done < Commands.ROOM && !isRefused && commands.readCommand()) {
+            isRefused = carryOut() < 0;
+            done++;
+        }
         commands.empty();
-        if (done < 0) {
+        if (isRefused) {
+            commands.error = commands.start;
             office.copyFrom(spare);
             throw new IllegalStateException();
         }
@@ -483,20 +490,7 @@ public final class LotInspector {
         }
     }
 
-    /** Returns the number of commands, or -1 as soon as one is refused. */
-    private int carryOutAll() {
-        commands.rewind();
-        int done = 0;
-        while (done < Commands.ROOM && commands.readCommand()) {
-            if (carryOut() < 0) {
-                commands.error = commands.start;
-                return -1;
-            }
-            done++;
-        }
-        return done;
-    }
-
+    /** Carries out the command that was read last; a negative answer is a refusal. */
     private int carryOut() {
         Word word = commands.word;
         if (word == null) {
@@ -677,8 +671,7 @@ public final class LotInspector {
         private final int[] state = new int[MOST_UNITS];
         private final int[] defects = new int[MOST_UNITS];
         private final int[] repairs = new int[MOST_UNITS];
-        // Which of the defects the lot's machine, or a repair, caused in this very unit.
-        private final int[] fromMachine = new int[MOST_UNITS];
+        // Which of the defects a repair caused. What neither a repair caused nor a part has, the machine caused.
         private final int[] fromRepair = new int[MOST_UNITS];
         // The place of the unit that was made of it, or -1.
         private final int[] usedIn = new int[MOST_UNITS];
@@ -700,7 +693,6 @@ public final class LotInspector {
                 state[unit] = HERE;
                 defects[unit] = 0;
                 repairs[unit] = 0;
-                fromMachine[unit] = 0;
                 fromRepair[unit] = 0;
                 usedIn[unit] = -1;
                 complained[unit] = false;
@@ -722,7 +714,6 @@ public final class LotInspector {
             System.arraycopy(other.state, 0, state, 0, size);
             System.arraycopy(other.defects, 0, defects, 0, size);
             System.arraycopy(other.repairs, 0, repairs, 0, size);
-            System.arraycopy(other.fromMachine, 0, fromMachine, 0, size);
             System.arraycopy(other.fromRepair, 0, fromRepair, 0, size);
             System.arraycopy(other.usedIn, 0, usedIn, 0, size);
             System.arraycopy(other.complained, 0, complained, 0, size);
@@ -790,15 +781,13 @@ public final class LotInspector {
 
         private void workOn(int unit, Machine worker) {
             int bit = 1 << worker.kind;
-            if (worker.spoilsNext() && has(unit) && (defects[unit] & bit) == 0) {
+            if (worker.spoilsNext() && has(unit)) {
                 defects[unit] |= bit;
-                fromMachine[unit] |= bit;
             }
         }
 
         private void lose(int unit, int kinds) {
             defects[unit] &= ~kinds;
-            fromMachine[unit] &= ~kinds;
             fromRepair[unit] &= ~kinds;
         }
 
@@ -1179,7 +1168,7 @@ public final class LotInspector {
             int bit = 1 << kind;
             int unit = place % PLACE_STEP;
             Lot lot = lotAt(place / PLACE_STEP);
-            if (lot == null || !lot.has(unit) || ((lot.fromMachine[unit] | lot.fromRepair[unit]) & bit) != 0) {
+            if (lot == null || !lot.has(unit) || (lot.fromRepair[unit] & bit) != 0) {
                 return -1;
             }
             for (int i = 0; i < lot.partCount && i < lot.parts.length; i++) {

@@ -42,7 +42,7 @@ public final class PromiseTest {
         }
     }
 
-    /** Machine 0 works well; machine 1 causes a defect of the kind 0, machine 2 of the kind 1, and so on, in each unit. */
+    /** Machine 0 works well; machine 1 causes a defect of the kind 0 in each unit, machine 2 of the kind 1 etc. */
     private static LotInspector office() {
         LotInspector x = new LotInspector();
         for (int kind = 0; kind < 4; kind++) {
@@ -929,7 +929,6 @@ public final class PromiseTest {
         due("24 only units that contain one", x.recalled(1, 0), 6 + 2 + 4);
         due("24 apart", x.recalled(5, 0), 5);
         due("24 scrapped", x.recalled(5, 2) + x.recalled(5, 1), 0);
-        // Lot 6 is made of lots 2 and 5, where units of lot 2 contain some of lot 0.
         for (int n : new int[] {-1, 6, MIN, MAX}) {
             refused("24 lot", PLACE, () -> x.recalled(n, 5));
         }
@@ -1246,12 +1245,14 @@ public final class PromiseTest {
             "seed:1;x", "seed:1;seed", "seed:1;seedy", "seed:1;seed:1", "seed:1;sort", "seed:-1;", "raw:1,2;",
             "raw:1,2", "raw:1,2,", "raw:1,2,3", "raw:1,2,3,", "raw:1,,2;", "make:1,2,3;", "make:1,2,3,4",
             "make:1,2,3,4,5,6,7;", "make:1,2,3,4,5,6", "make:1,2,3,4,-1;", "product:1,2,3;", "machine:1,2,3,4;",
+            "inspect:1,2;", "sort:1,2;", "ship:1,2;", "release:1,2;", "raw:1,2,3,4;", "product:1,2,3,4,5;",
             "undo:1;", "complain:0,0;", "save", "seed:1:", "seed:1;~", "machinex", "machin", "raw:10,2x"};
         int[] positions = {0, 4, 5, 6, 0, 0, 0, 0, 4, 0, 0,
             5, 5, 6, 10, 10, 6, 6, 7,
             7, 11, 7, 13, 11, 5, 7,
             7, 8, 9, 9, 6, 10, 12,
             16, 16, 13, 13, 13,
+            9, 6, 6, 9, 9, 15,
             0, 0, 0, 6, 7, 0, 0, 8};
         for (int i = 0; i < texts.length; i++) {
             fails(x, texts[i], NUMBER, positions[i]);
@@ -1374,6 +1375,15 @@ public final class PromiseTest {
         x.undo();
         x.undo();
         due("37 shipping", x.lot(a, 2) * 10 + x.units(a, 0), 13);
+        x.seed(1);
+        x.ship(a);
+        x.complain(a, 2);
+        for (int i = 0; i < 6; i++) {
+            x.undo();
+        }
+        blindLot(x, 1, 3);
+        x.ship(0);
+        due("37 another lot in its place", x.complain(0, 2), 1);
         x.machine(1, 9, 1);
         x.undo();
         due("37 machine", x.machine(1, 9, 1), 10);

@@ -15,9 +15,9 @@ public final class RandomRunsTest {
     private static final Map<String, Method> REAL = methodsOf(LotInspector.class);
     private static final Map<String, Method> PLAIN = methodsOf(PlainOffice.class);
     // A name stands here the more often, the more often it is called.
-    private static final String[] NAMES = ("machine machine product product seed raw raw raw raw raw make make make "
-            + "make make make inspect inspect inspect inspect inspect inspect inspect inspect sort sort sort sort sort ship "
-            + "ship complain complain complain complain release release undo undo save restore text append run worked "
+    private static final String[] NAMES = ("machine machine product product seed raw raw raw raw raw make make "
+            + "make make make make inspect inspect inspect inspect inspect inspect inspect inspect sort sort sort sort sort "
+            + "ship ship complain complain complain complain release release undo undo save restore text append run worked "
             + "policy policy table afterwards afterwards lot lot units units unit unit chance chance madeOf madeOf "
             + "whereabouts whereabouts trace trace trace recall recalled recalled blame worst outgoing foundShare open "
             + "keep keep keep specimen specimen errorPosition report character count count").split(" ");
@@ -106,6 +106,10 @@ public final class RandomRunsTest {
         return any(4) == 0 ? number(31) : theme == BAD ? any(8) : 20 + any(11);
     }
 
+    private int found() {
+        return any(3) == 0 ? number(201) : any(4);
+    }
+
     private int period() {
         return any(5) == 0 ? number(51) : theme == BAD ? 1 + any(3) : theme == PARTS ? 4 + any(20) : 1 + any(12);
     }
@@ -122,7 +126,7 @@ public final class RandomRunsTest {
             case "product": return ints(number(4), limit(), inspected(), number(16));
             case "policy": return ints(number(4), number(7));
             case "table": return new Object[] {number(4), unitCount(), number(3), random.nextBoolean()};
-            case "afterwards": return ints(number(4), any(3) == 0 ? number(201) : any(4), any(3) == 0 ? number(201) : any(4));
+            case "afterwards": return ints(number(4), found(), found());
             case "release": return ints(any(3) > 0 ? 0 : number(4));
             case "seed": return ints(any(3) == 0 ? random.nextInt() : any(1000));
             case "raw": return ints(number(6), any(3) == 0 ? number(4) : 0, unitCount());
