@@ -675,7 +675,8 @@ public final class LotInspector {
         private final int[] fromRepair = new int[MOST_UNITS];
         // The place of the unit that was made of it, or -1.
         private final int[] usedIn = new int[MOST_UNITS];
-        private final boolean[] complained = new boolean[MOST_UNITS];
+        // 1 for a unit that was complained of, otherwise 0.
+        private final int[] complained = new int[MOST_UNITS];
 
         /** Makes the lot a new one; it may have been another lot that was undone. */
         private void begin(int ofProduct, int byMachine, int unitCount) {
@@ -695,7 +696,7 @@ public final class LotInspector {
                 repairs[unit] = 0;
                 fromRepair[unit] = 0;
                 usedIn[unit] = -1;
-                complained[unit] = false;
+                complained[unit] = 0;
             }
         }
 
@@ -1126,13 +1127,13 @@ public final class LotInspector {
             if (lot == null || !lot.has(unit)) {
                 return NO_SUCH;
             }
-            if (lot.state[unit] != SHIPPED || lot.complained[unit]) {
+            if (lot.state[unit] != SHIPPED || lot.complained[unit] != 0) {
                 return NOT_NOW;
             }
             if (lot.defects[unit] == 0) {
                 return NOTHING_THERE;
             }
-            lot.complained[unit] = true;
+            lot.complained[unit] = 1;
             complaints++;
             blameDefects(number, unit, lot.defects[unit]);
             return complaints;
