@@ -24,6 +24,9 @@ final class CauseSentences extends Offices {
                 due("trace(0, 0, 2, true)", x.trace(0, 0, 2, true), m);
             }
             due("of a repair", repairedSeven().trace(0, 6, 3, true), 6);
+            LotInspector x = repairedTwice();
+            due("of a repair, behind another one", x.trace(2, 6, 3, true), 6);
+            due("of the second repair", x.trace(2, 5, 3, true), 6);
         });
         test(22, "If a unit has a defect that was neither caused in this unit by its machine nor by a repair, it is from a "
                 + "part: from the unit of the first part, in the order of the parts, that has a defect of this kind, and "
@@ -51,6 +54,7 @@ final class CauseSentences extends Offices {
             due("in the unit itself", x.trace(4, 1, 2, false), 4001);
             due("in a raw unit", x.trace(0, 11, 0, false), 11);
             due("by a repair", repairedSeven().trace(0, 6, 3, false), 6);
+            due("by the repair before the latest", repairedTwice().trace(2, 6, 3, false), 2006);
             LotInspector y = office();
             int part = blindLot(y, 4, 7);
             y.product(0, 0, 8, 8);
@@ -71,6 +75,18 @@ final class CauseSentences extends Offices {
         x.raw(1, 0, 8);
         x.inspect(0);
         x.sort(0);
+        return x;
+    }
+
+    /** Each unit of lot 2 is repaired once for the kind 0 and once for the kind 1: 6 was the seventh, 5 the 14th. */
+    private static LotInspector repairedTwice() {
+        LotInspector x = office();
+        int lot = x.make(0, 0, 8, blindLot(x, 1, 8), blindLot(x, 2, 8), -1);
+        for (int kinds = 1; kinds < 3; kinds++) {
+            x.product(0, 0, kinds, kinds);
+            x.inspect(lot);
+            x.sort(lot);
+        }
         return x;
     }
 
@@ -589,6 +605,12 @@ final class CauseSentences extends Offices {
             x.ship(blindLot(x, 3, 1));
             x.product(3, 5, 4, 0);
             due("1 of 600", x.outgoing(3), Float.floatToIntBits(1.0f / 600.0f));
+            for (int all = 2; all < 50; all++) {
+                int bad = all * 7 / 10;
+                due(bad + " of " + all, someBad(all, bad), Float.floatToIntBits((float) bad / (float) all));
+                due("all of " + all + " but one", someBad(all, all - 1),
+                        Float.floatToIntBits((float) (all - 1) / (float) all));
+            }
         });
         test(27, "Throws `IndexOutOfBoundsException` if there is no such product", () -> {
             for (int n : beside(0, 3)) {
@@ -605,11 +627,35 @@ final class CauseSentences extends Offices {
         });
     }
 
+    /** The outgoing share of a product with so many shipped units, of which so many are bad. */
+    private static int someBad(int all, int bad) {
+        LotInspector x = office();
+        x.ship(blindLot(x, 0, all - bad));
+        if (bad > 0) {
+            x.ship(blindLot(x, 1, bad));
+        }
+        x.product(3, 5, 1, 0);
+        return x.outgoing(3);
+    }
+
     private static LotInspector shippedAndUndone() {
         LotInspector x = office();
         x.ship(blindLot(x, 1, 2));
         x.undo();
         return x;
+    }
+
+    /** As many lots as there can be, of the good ones and then of bad ones, with the share as it is after each. */
+    private static void dueShares(int good) {
+        LotInspector x = office();
+        int found = 0;
+        int sampled = 0;
+        for (int lot = 0; lot < 24 && x.policy(0, 3) != 3; lot++) {
+            x.inspect(x.raw(lot < good ? 0 : 1, 0, 20 + 7 * lot));
+            sampled += x.lot(lot, 5);
+            found += x.lot(lot, 7);
+            due(found + " of " + sampled, x.foundShare(0), Double.doubleToLongBits((double) found / (double) sampled));
+        }
     }
 
     private static void foundShare() {
@@ -642,6 +688,9 @@ final class CauseSentences extends Offices {
             due("one third", after("raa").foundShare(0), 0x3fd5555555555555L);
             due("two thirds", after("rra").foundShare(0), 0x3fe5555555555555L);
             due("0.0", after("aa").foundShare(0), 0L);
+            for (int good = 0; good < 8; good++) {
+                dueShares(good);
+            }
         });
         test(28, "Throws `IndexOutOfBoundsException` if there is no such product", () -> {
             for (int n : beside(0, 3)) {

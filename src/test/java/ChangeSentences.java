@@ -6,6 +6,7 @@ final class ChangeSentences extends Offices {
         changes();
         eight();
         stays();
+        gone();
         undo();
         undoneCalls();
         descents();
@@ -173,6 +174,51 @@ final class ChangeSentences extends Offices {
             due("the buffer has what was appended since", x.count(5), 7);
             due("and the error position is that of the run", x.errorPosition(), -1);
         });
+    }
+
+    private static void dueNoLot(String when, Supplier<LotInspector> start) {
+        Call[] calls = {x -> x.lot(1, 0), x -> x.units(1, 0), x -> x.unit(1, 0, 0), x -> x.chance(1, 0),
+            x -> x.madeOf(1, 0, 0), x -> x.whereabouts(1, 0), x -> x.trace(1, 0, 0, true), x -> x.recall(1),
+            x -> x.recalled(1, 0), x -> x.inspect(1), x -> x.sort(1), x -> x.ship(1), x -> x.complain(1, 0),
+            x -> x.make(0, 0, 1, 1, -1, -1), x -> x.make(0, 0, 1, 0, 1, -1), x -> x.keep(0, 1, 0), x -> x.report(1)};
+        for (int i = 0; i < calls.length; i++) {
+            due(when + ", call " + i + " throws", thrownBy(start.get(), calls[i]), PLACE.getName());
+        }
+        LotInspector x = start.get();
+        due(when + ", count(0)", x.count(0), 1);
+        due(when + ", count(1)", x.count(1), 3);
+        due(when + ", count(10)", x.count(10), 3);
+        due(when + ", recall(0)", x.recall(0), 1);
+    }
+
+    /** One lot, accepted, of three bad units; another one was made of it and is gone. */
+    private static LotInspector oneIsGone(Call going) {
+        LotInspector x = office();
+        blindLot(x, 1, 3);
+        x.save();
+        going.on(x);
+        return x;
+    }
+
+    private static void makeSecond(LotInspector x) {
+        x.make(2, 3, 2, 0, -1, -1);
+        x.inspect(1);
+    }
+
+    private static void gone() {
+        test(37, "Undoes the latest change", () -> dueNoLot("undone", () -> oneIsGone(x -> {
+            makeSecond(x);
+            x.undo();
+            x.undo();
+        })));
+        test(39, "Restores what was saved,", () -> dueNoLot("restored", () -> oneIsGone(x -> {
+            makeSecond(x);
+            x.restore();
+        })));
+        test(33, "and none of the commands has an effect.", () -> dueNoLot("a run that threw", () -> oneIsGone(x -> {
+            type(x, "make:2,3,2,0;inspect:1;sort:1;");
+            thrownBy(x, LotInspector::run);
+        })));
     }
 
     private static void undo() {

@@ -707,6 +707,13 @@ final class InspectionSentences extends Offices {
             due("0.0", oneLot(5, 1, 5).chance(0, 0), 0L);
             due("one of eight, two drawn", oneLot(8, 8, 5).chance(0, 0), chanceOf(8, 1, 2, 0));
             due("very small", oneLot(200, 2, 0).chance(0, 0), chanceOf(200, 100, 32, 0));
+            for (int size = 1; size < 60; size++) {
+                LotInspector x = oneLot(size, 4, 30);
+                for (int severity = 0; severity < 3; severity++) {
+                    due("each fourth of " + size + ", severity " + severity, x.chance(0, severity), chanceOf(size,
+                            size / 4, x.table(0, size, severity, true), x.table(0, size, severity, false)));
+                }
+            }
         });
         test(19, "Throws `IndexOutOfBoundsException` if there is no such lot", () -> {
             for (int n : beside(0, 7)) {

@@ -123,6 +123,20 @@ final class TextSentences extends Offices {
                 fails(more[i], NUMBER, ahead[i]);
             }
         });
+        test(33, "The words and their numbers are those of the methods with these names:", () -> {
+            LotInspector x = accepted();
+            type(x, "make:4,2,3,1,0,2;raw:5,1,7;");
+            due("run()", x.run(), 2);
+            due("the machine of make", x.lot(3, 9), 4);
+            due("the product of make", x.lot(3, 0), 2);
+            due("the size of make", x.lot(3, 1), 3);
+            due("the first part", x.madeOf(3, 0, 0), 1000);
+            due("the second part", x.madeOf(3, 0, 1), 0);
+            due("the third part", x.madeOf(3, 0, 2), 2000);
+            due("the machine of raw", x.lot(4, 9), 5);
+            due("the product of raw", x.lot(4, 0), 1);
+            due("the size of raw", x.lot(4, 1), 7);
+        });
         test(33, "numbers of parts that make does not have are -1.", () -> {
             runs(TextSentences::accepted, "make:0,1,2,1;", 1, x -> x.make(0, 1, 2, 1, -1, -1));
             runs(TextSentences::accepted, "make:0,1,2,1,2;", 1, x -> x.make(0, 1, 2, 1, 2, -1));
